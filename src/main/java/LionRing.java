@@ -28,8 +28,7 @@ public final class LionRing {
     /** Where all that is asked goes on from how all is. */
     private final Scene trial = new Scene();
     private boolean hasImage = false;
-    private final Row text = new Row(TEXT_ROOM);
-    private final Reader reader = new Reader(text);
+    private final Reader reader = new Reader();
     private final Ring[] rings = new Ring[RINGS];
     private int ringCount = 0;
     private final Hunt hunt = new Hunt();
@@ -131,13 +130,13 @@ public final class LionRing {
         if (!isWithin(n, 0, 4)) {
             return BAD;
         }
-        if (text.size + n > TEXT_ROOM) {
+        if (reader.text.size + n > TEXT_ROOM) {
             return FULL;
         }
         for (int left = n - 1; left >= 0; left--) {
-            text.add((bytes >>> (8 * left)) & 255);
+            reader.text.add((bytes >>> (8 * left)) & 255);
         }
-        return text.size;
+        return reader.text.size;
     }
 
     public int ring() {
@@ -149,7 +148,7 @@ public final class LionRing {
             return FULL;
         }
         int fault = reader.faultOfText();
-        text.clear();
+        reader.text.clear();
         if (fault != NONE) {
             return FAULTY - fault;
         }
@@ -446,7 +445,7 @@ public final class LionRing {
             case 1: return ringCount;
             case 2: return now.walk.size;
             case 3: return now.film.size;
-            case 4: return text.size;
+            case 4: return reader.text.size;
             case 5: return now.tenth;
             case 6: return acts.ran;
             case 7: return now.tamer;
@@ -743,15 +742,11 @@ public final class LionRing {
         }
     }
 
-    /** Reads a RING from THE TEXT, a byte at a time: where it stops, no RING goes on so. */
+    /** THE TEXT, and the RING read from it, a byte at a time: where it stops, no RING goes on so. */
     private static final class Reader {
-        private final Row text;
+        final Row text = new Row(TEXT_ROOM);
         final Ring draft = new Ring();
         private int place = 0;
-
-        Reader(Row text) {
-            this.text = text;
-        }
 
         /** The FAULT of THE TEXT, or NONE: then the draft is what was read. */
         int faultOfText() {
@@ -812,31 +807,36 @@ public final class LionRing {
 
         /** F, within so many ( or !. */
         private boolean readOne(int within) {
-            int first = text.at(place);
-            if (first == '(' || first == '!') {
-                if (within >= MOST_WITHIN) {
+            int inner = within;
+            while (inner < MOST_WITHIN && accept('!')) {
+                inner++;
+            }
+            if (inner < MOST_WITHIN && accept('(')) {
+                if (!readEither(inner + 1) || !accept(')')) {
+                    return false;
+                }
+            } else {
+                int letter = text.at(place);
+                if (letter != 'n' && letter != 'h' && letter != 'b' && letter != 'c' && letter != 't') {
                     return false;
                 }
                 place++;
-                if (first == '(') {
-                    return readEither(within + 1) && accept(')');
+                int sign = text.at(place);
+                if (sign != '<' && sign != '=' && sign != '>') {
+                    return false;
                 }
-                boolean fits = readOne(within + 1);
+                place++;
+                int n = readNumber();
+                if (n == NONE) {
+                    return false;
+                }
+                draft.add(letter, sign, n);
+            }
+            // two ! undo one another
+            if ((inner - within) % 2 != 0) {
                 draft.add('!', 0, 0);
-                return fits;
             }
-            if (first != 'n' && first != 'h' && first != 'b' && first != 'c' && first != 't') {
-                return false;
-            }
-            place++;
-            int sign = text.at(place);
-            if (sign != '<' && sign != '=' && sign != '>') {
-                return false;
-            }
-            place++;
-            int n = readNumber();
-            draft.add(first, sign, n);
-            return n != NONE;
+            return true;
         }
 
         /** 1 or 2 digits; NONE. */
@@ -1348,11 +1348,11 @@ public final class LionRing {
         }
 
         long get(int i) {
-            return hasPlace(i) && i >= 0 && i < items.length ? items[i] : 0;
+            return hasPlace(i) ? items[i] : 0;
         }
 
         void put(int i, long item) {
-            if (hasPlace(i) && i >= 0 && i < items.length) {
+            if (hasPlace(i)) {
                 items[i] = narrowed(item);
             }
         }

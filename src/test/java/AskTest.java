@@ -45,6 +45,10 @@ public final class AskTest {
         Check.due("from(0): it never leaves", x.from(0), -5);
         Check.ring(x, LINES);
         Check.due("from(0)", x.from(0), 1);
+        LionRing u = new LionRing();
+        u.beast(0, 0, 7, 0);
+        Check.ring(u, LINES);
+        Check.due("from(0)", u.from(0), 0);
         x.beast(0, 0, 4, 0);
         // from 1, 2 and 3 both would leave; 4 has a BEAST; 5 is farther than 3 from BEAST 0
         Check.due("from(0)", x.from(0), 6);
@@ -133,6 +137,15 @@ public final class AskTest {
         }
     }
 
+    private static LionRing alone(int kind, int v, int cell, int stool, int tamer) {
+        LionRing x = new LionRing();
+        x.tamer(tamer);
+        x.beast(kind, v, cell, 0);
+        x.set(0, 0, stool);
+        Check.ring(x, LINES);
+        return x;
+    }
+
     private static void shortest() {
         LionRing x = new LionRing();
         x.beast(2, 9, 30, 0);
@@ -146,7 +159,7 @@ public final class AskTest {
         // from 28 then, 25 would be as near as 32
         shortestIs(x, 34, 33);
         x.set(0, 0, 34);
-        Check.due("shortest(0, -1)", x.shortest(0, -1), 4);
+        shortestIs(x, 34, 33, 34, 35);
         x.set(0, 0, 5);
         Check.due("shortest(0, -1): too far", x.shortest(0, -1), -5);
         Check.due("shortest(0, 0)", x.shortest(0, 0), -5);
@@ -154,6 +167,9 @@ public final class AskTest {
         Check.due("shortest(0, -2)", x.shortest(0, -2), LionRing.NONE);
         Check.due("shortest(1, -1)", x.shortest(1, -1), LionRing.NONE);
         Check.due("shortest(-1, -1)", x.shortest(-1, -1), LionRing.NONE);
+        shortestIs(alone(2, 9, 0, 10, 35), 29, 23, 17, 16, 16);
+        shortestIs(alone(1, 0, 14, 0, 21), 15, 9, 3, 2);
+        shortestIs(alone(0, 0, 21, 6, 15), 9, 8, 7, 13, 7);
         LionRing y = new LionRing();
         y.beast(0, 0, 21, 0);
         y.set(0, 0, 20);
@@ -275,11 +291,22 @@ public final class AskTest {
         w.beast(0, 0, 20, 0);
         w.beast(0, 0, 15, 0);
         Check.due("line(0): it has no CELL to come to", w.line(0), -5);
-        LionRing v = new LionRing();
-        v.beast(2, 9, 21, 0);
-        v.beast(0, 0, 15, 0);
-        v.beast(0, 0, 20, 0);
-        // corner 0: 15 and 20 have BEASTS, so it stays until THE TAMER is where none of them is nearer
-        Check.due("line(0): nobody else is asked", v.line(0), -5);
+        // THE TAMER comes by the least CELLS: last by this one
+        lineEndsIn(21, 15, 20);
+        lineEndsIn(8, 7, 14);
+        lineEndsIn(25, 19, 24);
+        lineEndsIn(28, 22, 27);
+    }
+
+    /** A BEAST that comes when THE TAMER is NEXT to it: a BEAST in the last CELL of the line holds it, else none. */
+    private static void lineEndsIn(int cell, int last, int other) {
+        LionRing x = new LionRing();
+        x.beast(2, 1, cell, 0);
+        x.beast(0, 0, last, 0);
+        Check.due("line(0) of " + cell + ", a BEAST in " + last, x.line(0), -5);
+        LionRing y = new LionRing();
+        y.beast(2, 1, cell, 0);
+        y.beast(0, 0, other, 0);
+        Check.due("line(0) of " + cell + ", a BEAST in " + other, y.line(0), 1);
     }
 }

@@ -131,6 +131,8 @@ public final class RingTest {
         yields(2, "n<2", false);
         yields(2, "n>2", false);
         yields(2, "n<03", true);
+        yields(2, "n<10", true);
+        yields(2, "n>10", false);
         yields(0, "h=5", true);
         yields(0, "h<5", false);
         yields(2, "h>8", true);

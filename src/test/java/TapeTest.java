@@ -30,11 +30,15 @@ public final class TapeTest {
         Check.due("tape(0, 0, 60)", x.tape(0, 0, 60), 1);
         Check.due("read(0, 59)", x.read(0, 59), 0);
         Check.due("read(0, 60)", x.read(0, 60), LionRing.NO);
+        x.item(0, 0, 8);
         x.item(0, 3, 7);
+        x.item(0, 4, 9);
         Check.due("tape(0, 0, 61)", x.tape(0, 0, 61), LionRing.BAD);
         Check.due("read(0, 3): refusals change nothing", x.read(0, 3), 7);
         Check.due("tape(0, 0, 5)", x.tape(0, 0, 5), 1);
-        Check.due("read(0, 3): all 0", x.read(0, 3), 0);
+        for (int i = 0; i < 5; i++) {
+            Check.due("read(0, " + i + "): all 0", x.read(0, i), 0);
+        }
         Check.due("tape(0, -1, 61): n does not matter", x.tape(0, -1, 61), 1);
         Check.due("read(0, 0)", x.read(0, 0), LionRing.NO);
         Check.due("tape(0, -1, -9)", x.tape(0, -1, -9), 1);

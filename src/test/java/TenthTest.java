@@ -99,6 +99,13 @@ public final class TenthTest {
         deed(4, 0, 0, 21, 2, 1);
         deed(4, 0, 0, 22, 0, 0);
         deed(4, 0, 35, 21, 2, 29);
+        LionRing x = new LionRing();
+        x.tamer(6);
+        x.beast(4, 0, 0, 0);
+        x.beast(0, 0, 1, 0);
+        Check.ring(x, "yield 3 n=0");
+        Check.due("of(0, 7): shut in", x.of(0, 7), 2);
+        Check.due("go(1): into THE TAMER's CELL", x.go(1), 0);
     }
 
     private static void taught() {

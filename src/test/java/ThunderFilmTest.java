@@ -55,6 +55,9 @@ public final class ThunderFilmTest {
         calmIs(y, 5, 2, 3, 4);
         calmIs(y, 5, 3, 1, 2);
         calmIs(y, 10, 2, 0, 1);
+        Check.ring(y, "yield 1 n=5");
+        // loud is 1 again
+        calmIs(y, 10, 6, 1, 1);
         LionRing z = new LionRing();
         z.beast(2, 1, 33, 0);
         // with THUNDER it comes from 2 off; from then on it comes by itself
