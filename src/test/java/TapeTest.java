@@ -167,6 +167,9 @@ public final class TapeTest {
         tell(x);
         Check.due("judge(0, 0, 0): a row of none", x.judge(0, 0, 0), 100);
         Check.due("judge(1, 0, 0): nothing", x.judge(1, 0, 0), 100);
+        tell(x, 32, 5, 9);
+        x.tape(0, -1, 0);
+        Check.due("judge(0, 0, 0): nothing any more", x.judge(0, 0, 0), 100);
         for (int sort = 1; sort < 5; sort++) {
             x.tape(2, sort, 3);
             Check.due("judge(2, 0, 0) of sort " + sort, x.judge(2, 0, 0), CAST);
