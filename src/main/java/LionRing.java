@@ -1174,11 +1174,25 @@ public final class LionRing {
         private void keep(Scene scene, int beast, int told, int length) {
             int k = walks.size;
             int left = roundOf(scene.cell.at(beast), scene.stool.at(beast));
-            if (left <= MOST - length && k >= 0 && k < ROOM && k < scenes.length) {
-                scenes[k] = scene.places();
+            long places = scene.places();
+            if (left > MOST - length || isKept(places, length)) {
+                return;
+            }
+            if (k >= 0 && k < ROOM && k < scenes.length) {
+                scenes[k] = places;
                 walks.add(told);
                 lengths.add(length);
             }
+        }
+
+        /** Whether an earlier WALK of that length led to the same: what comes then is the same, and its row first. */
+        private boolean isKept(long places, int length) {
+            for (int k = walks.size - 1; k >= 0 && k < scenes.length && lengths.at(k) == length; k--) {
+                if (scenes[k] == places) {
+                    return true;
+                }
+            }
+            return false;
         }
 
         private static int cellOfWay(int cell, int way) {

@@ -33,6 +33,7 @@ public final class EdgeAskTest {
         shortestNeverCaught();
         shortestFromCaught();
         shortestFirstAsARow();
+        shortestByTenths();
         seatsNone();
         seatsWithoutBeasts();
         seatsEachOnce();
@@ -464,6 +465,17 @@ public final class EdgeAskTest {
         shortestIs(x, 14);
         x.set(0, 0, 0);
         shortestIs(x);
+    }
+
+    /** "behind which that BEAST is on its STOOL": all may be where it was, a TENTH later, and yet go on otherwise */
+    private static void shortestByTenths() {
+        // it yields in TENTH 2 at first; from 15 it goes to 8, from 9 (the first row's CELL) it would go to 13
+        shortestIs(alone(0, 0, 14, 8, 15, "yield 1 t>1"), 9, 9, 15);
+        shortestIs(alone(0, 0, 14, 13, 15, "yield 1 t>1"), 9, 3, 9);
+        shortestIs(alone(0, 0, 14, 13, 15, "yield 1 t=4"), 9, 3, 2, 2, 8);
+        // REFUSING stays in TENTHS 0, 2 and 4
+        shortestIs(alone(3, 2, 14, 8, 15, "yield 1 n=0"), 9, 15);
+        shortestIs(alone(3, 2, 14, 2, 15, "yield 2 n=0"), 9, 15, 9, 9);
     }
 
     // ---- promise 15
